@@ -122,6 +122,17 @@ public final class CommentsTest {
         x.join(0, 7);
         x.block(7, 0, true);
         Check.noState("33 an OWNER BLOCKS another one", () -> x.comment(0, 0, -1));
+        x.leave(0, 7);
+        x.block(0, 11, true);
+        Check.noState("33 PERSON 0 is an OWNER and BLOCKS", () -> x.comment(0, 11, -1));
+        Check.posted(x, 11, 0);
+        x.comment(1, 0, -1);
+        Check.noState("33 PERSON 0 wrote that one and BLOCKS", () -> x.comment(1, 11, 10));
+        x.comment(1, 11, -1);
+        x.block(11, 1, true);
+        Check.noState("33 PERSON 11 is an OWNER and BLOCKS", () -> x.comment(1, 1, -1));
+        Check.is("33 PERSON 12 is none: a visitor's comment", 12, x.comment(0, 12, -1));
+        Check.is("33 beneath a visitor's that has a PERSON's bit", 13, x.comment(0, 3, 12));
     }
 
     private static void commentNotRead() {

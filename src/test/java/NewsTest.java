@@ -64,6 +64,8 @@ public final class NewsTest {
         Check.is("40 that one alone", 1, x.digest(4));
         Check.is("40 all for those before", 3, x.digest(1));
         Check.is("40 the rest for who had a digest", 1, x.digest(2));
+        Check.is("40 none comes back", 0, x.digest(2));
+        Check.is("39 none comes back", 0, x.news(2));
     }
 
     private static void newsOfPeople() {

@@ -196,6 +196,10 @@ public final class SearchTest {
         search(x, "t00", 31, Check.set(0));
         search(x, "t01", 31, Check.set(1));
         x.make(0);
+        x.put(2, 0, true);
+        search(x, "t04", 31, 0);
+        search(x, "!t04", 31, Check.set(0, 1, 2));
+        x.put(2, 0, false);
         Check.retype(x, "t00");
         Check.is("27 MAIN, but not filed", 0, x.search(31, false));
         Check.is("27 MAIN, by now", Check.set(0), x.search(31, true));
@@ -243,6 +247,9 @@ public final class SearchTest {
         search(x, "!(!(t00)&!(t01))", 31, 0b11101110);
         search(x, "(t00|(t01|(t02)))", 31, 0b11111110);
         search(x, "t00|!t00", 31, 0b11111111);
+        search(x, "t00|t01|t02", 31, 0b11111110);
+        search(x, "t00&t01&t02", 31, 0b10000000);
+        search(x, "(t00|t01|t02)&!(t00&t01&t02)", 31, 0b01111110);
         search(x, "(t00)&(t01)|(t02)&!(t00)", 31, 0b11011000);
     }
 

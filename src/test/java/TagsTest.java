@@ -5,6 +5,7 @@ public final class TagsTest {
         make();
         mergeRefusals();
         mergeFreeAndAlias();
+        mergeFirstAndLast();
         mergeMain();
         parent();
         parentOnlyOfMain();
@@ -94,6 +95,23 @@ public final class TagsTest {
         Check.is("17 to another one", 2, x.merge(2, 1));
         Check.is("17 means that one", 1, x.ofTag(2, 1));
         Check.is("17 the other ALIAS stays", 0, x.ofTag(3, 1));
+    }
+
+    /** TAG 0 and the last one go along like all others. */
+    private static void mergeFirstAndLast() {
+        Tagwranglery x = new Tagwranglery();
+        Check.mainTags(x, 30);
+        x.merge(0, 28);
+        x.parent(29, 28, true);
+        x.parent(1, 28, true);
+        x.merge(28, 2);
+        Check.is("17 ALIAS 0 goes along", 2, x.ofTag(0, 1));
+        Check.is("17 PARENTS of 29", Check.set(2), x.ofTag(29, 2));
+        Check.is("17 PARENTS of 1", Check.set(2), x.ofTag(1, 2));
+        x.make(0);
+        x.parent(0, 2, true);
+        x.merge(2, 3);
+        Check.is("17 PARENTS of 0", Check.set(3), x.ofTag(0, 2));
     }
 
     private static void mergeMain() {
