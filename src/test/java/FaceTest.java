@@ -25,6 +25,7 @@ public final class FaceTest {
         methods();
         names();
         words();
+        heads();
         newObject();
         Check.end();
     }
@@ -101,6 +102,18 @@ public final class FaceTest {
             Check.note(!all.contains(word), "the program has " + word);
         }
         Check.note(all.chars().allMatch(c -> c < 127), "the program has a sign above 126");
+    }
+
+    /** The document names a head that stands ahead of the first call of each kind. */
+    private static void heads() throws Exception {
+        String all = Files.readString(Path.of("src/main/java/Tagwranglery.java"));
+        String[][] heads = {{"FACES, days", "int pass("}, {"WORKS", "int work("}, {"TAGS", "int tag("},
+            {"searches", "int type("}, {"gifts", "int sign("}, {"comments, kudos, news", "boolean screen("}};
+        for (String[] head : heads) {
+            int place = all.indexOf("// ---- " + head[0] + "\n\n    public ");
+            Check.note(place >= 0 && all.indexOf("public ", place) == all.indexOf("public " + head[1]),
+                    "no head " + head[0] + " ahead of " + head[1]);
+        }
     }
 
     private static void newObject() {

@@ -2,6 +2,7 @@
 final class Check {
     private static int passed;
     private static int failed;
+    private static String about = "";
 
     private Check() {
     }
@@ -27,7 +28,7 @@ final class Check {
     }
 
     /** The very class is asked for: the document's are no subclasses, such as those of the machine. */
-    private static void fails(String call, Class<?> due, Runnable what) {
+    static void fails(String call, Class<?> due, Runnable what) {
         String thrown = "nothing";
         try {
             what.run();
@@ -42,8 +43,17 @@ final class Check {
             passed++;
         } else {
             failed++;
-            System.out.println("  WRONG: " + text);
+            System.out.println("  WRONG: " + about + text);
         }
+    }
+
+    /** Tells what the checks that come are about. */
+    static void about(String text) {
+        about = text;
+    }
+
+    static int noted() {
+        return passed + failed;
     }
 
     static void end() {
